@@ -85,7 +85,7 @@ public final class CordBoard {
 
     public int lay(int socket, int i, int knob) {
         Knob laid = knobOf(knob);
-        if (!isSocket(socket) || laid == null && knob != NONE) return UNKNOWN;
+        if (!isSocket(socket) || (laid == null && knob != NONE)) return UNKNOWN;
         hand.holdThing(laid);
         return answerOf(layAt(sockets[socket], i, hand));
     }
@@ -218,11 +218,11 @@ public final class CordBoard {
     }
 
     private Knob knobOf(int number) {
-        return number >= 0 && number < knobCount && number < knobs.length ? knobs[number] : null;
+        return number >= 0 && number < knobs.length ? knobs[number] : null;
     }
 
     private Cable cableOf(int number) {
-        return number >= 0 && number < cableCount && number < cables.length ? cables[number] : null;
+        return number >= 0 && number < cables.length ? cables[number] : null;
     }
 
     private static boolean isWidth(int n) {
@@ -403,7 +403,8 @@ public final class CordBoard {
         long sign = bits < 0 ? 1L << 63 : 0L;
         long exponent = (bits >>> 23) & 0xff;
         long fraction = bits & 0x7fffff;
-        if (exponent == 0xff) return sign | 0x7ffL << 52 | fraction << 29;
+        // No NaN is ever taken, so this is an infinity.
+        if (exponent == 0xff) return sign | 0x7ffL << 52;
         if (exponent != 0) return sign | (exponent + 1023 - 127) << 52 | fraction << 29;
         if (fraction == 0) return sign;
         // A float too small for a leading one has it as a double: the fraction counts steps of 2 to the -149.

@@ -73,6 +73,8 @@ public final class PromiseTest {
         due("the 25th", x.knob(1, false), FULL);
         due("about(0)", x.about(0), 24);
         due("gain(23)", x.gain(23), 64);
+        due("gain(24)", x.gain(24), 0);
+        due("mount(0, 24)", x.mount(0, 24), UNKNOWN);
         x.plug(0, FADERS, 1);
         due("an odd one is a fader", x.lay(0, 0, 23), 0);
         due("an even one is none", x.lay(0, 0, 22), WRONG);
@@ -198,9 +200,21 @@ public final class PromiseTest {
         due("the least FLOAT for DOUBLE", dialled(DOUBLE, FLOAT, 1), Double.doubleToLongBits(Float.MIN_VALUE));
         due("-0 for DOUBLE", dialled(DOUBLE, FLOAT, Integer.MIN_VALUE), Long.MIN_VALUE);
         due("infinity for DOUBLE", dialled(DOUBLE, FLOAT, 0xff800000L), 0xfff0000000000000L);
+        for (long whole : WHOLES) {
+            due(whole + " for FLOAT", dialled(FLOAT, LONG, whole), Float.floatToIntBits((float) whole));
+            due(whole + " for DOUBLE", dialled(DOUBLE, LONG, whole), Double.doubleToLongBits((double) whole));
+        }
+        for (float small : FLOATS) {
+            due(small + " for DOUBLE", dialled(DOUBLE, FLOAT, Float.floatToIntBits(small)), Double.doubleToLongBits(small));
+        }
         dialRefused();
         dialKinds();
     }
+
+    private static final long[] WHOLES = {0, 1, -1, 3, 16777215, 33554431, 33554433, 33554435, -33554437, 67108867,
+        9007199254740991L, 18014398509481987L, 18014398509481989L, -36028797018963971L, Long.MAX_VALUE - 511, 0x7fffffbfffffffffL};
+
+    private static final float[] FLOATS = {0f, 1f, -1.5f, 0.1f, 3.4028235e38f, 1.1754944e-38f, 1.1754942e-38f, -4.2e-45f, 7e-45f};
 
     private static void dialRefused() {
         CordBoard x = fullDesk();
@@ -392,6 +406,7 @@ public final class PromiseTest {
         }
         due("OUTSIDE is ahead of FULL", x.cable(0, 0, 0, 0, 0, 0, 0, 3), OUTSIDE);
         due("the 13th", x.cable(0, 0, 0, 0, 0, 0, 0, 0), FULL);
+        due("told(12, 0)", x.told(12, IN), UNKNOWN);
         due("it is in", x.told(11, IN), 1);
         due("its place from", x.told(11, FROM), Integer.MAX_VALUE);
         due("its place to", x.told(11, TO), Integer.MIN_VALUE);
