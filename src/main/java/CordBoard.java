@@ -156,7 +156,11 @@ public final class CordBoard {
         if (n < 0 || n > MOST_TICKS) return OUTSIDE;
         int before = moveCount;
         for (int done = 0; done < n; done++) {
-            tickOnce();
+            tickCount++;
+            for (int number = 0; number < cableCount; number++) {
+                Cable cable = cableOf(number);
+                if (cable != null && cable.isIn) carry(cable);
+            }
         }
         return moveCount - before;
     }
@@ -255,14 +259,6 @@ public final class CordBoard {
     }
 
     // ---- ticks
-
-    private void tickOnce() {
-        tickCount++;
-        for (int number = 0; number < cableCount; number++) {
-            Cable cable = cableOf(number);
-            if (cable != null && cable.isIn) carry(cable);
-        }
-    }
 
     private void carry(Cable cable) {
         int cause = pickUp(cable.from, cable.way);
@@ -385,18 +381,15 @@ public final class CordBoard {
         // The least long stays as it is here, and is right when its bits are taken without a sign.
         long size = whole < 0 ? -whole : whole;
         int top = 63 - Long.numberOfLeadingZeros(size);
-        int cutBits = top - fractionBits;
-        long lead = cutBits <= 0 ? size << -cutBits : roundedOff(size, cutBits);
         // The leading one, and a carry of the rounding, count up the exponent by being added to it.
-        return sign | (((long) (top + bias - 1) << fractionBits) + lead);
-    }
-
-    private static long roundedOff(long size, int cutBits) {
+        long exponent = (long) (top + bias - 1) << fractionBits;
+        int cutBits = top - fractionBits;
+        if (cutBits <= 0) return sign | exponent + (size << -cutBits);
         long lead = size >>> cutBits;
         long rest = size & ((1L << cutBits) - 1);
         long half = 1L << (cutBits - 1);
         boolean up = rest > half || rest == half && (lead & 1L) == 1L;
-        return up ? lead + 1 : lead;
+        return sign | exponent + (up ? lead + 1 : lead);
     }
 
     private static long doubleOfFloat(int bits) {
